@@ -189,9 +189,6 @@ public final class TicketChain {
     }
 
     public int root(int day, int i) {
-        if (i < 0 || i >= DIGEST_BYTES) {
-            return NONE;
-        }
         return chain.rootByte(day, i);
     }
 
@@ -507,8 +504,11 @@ public final class TicketChain {
         }
 
         int rootByte(int day, int i) {
+            if (i < 0 || i >= DIGEST_BYTES) {
+                return NONE;
+            }
             int digests = gather(day);
-            if (digests == 0 || i < 0 || i >= DIGEST_BYTES) {
+            if (digests == 0) {
                 return NONE;
             }
             for (int left = digests; left > 1; left = (left + 1) / 2) {

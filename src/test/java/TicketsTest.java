@@ -69,7 +69,7 @@ public final class TicketsTest {
         Due.is("the day of the second", tareOn(y, 1, 5), 60);
         Due.is("long after", tareOn(y, 1, 92592), 60);
         Due.is("another vehicle", tareOn(y, 2, 3), 77);
-        y.follows(2, 1, 55);
+        Due.is("follows(2, 1, 55), told again", y.follows(2, 1, 55), true);
         Due.is("told again", tareOn(y, 1, 4), 55);
         Due.is("told again, behind the next", tareOn(y, 1, 5), 60);
         y.follows(4, 1, 58);
