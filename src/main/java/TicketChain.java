@@ -34,8 +34,8 @@ public final class TicketChain {
     private static final int HEAD_BYTES = 41;
     private static final int ROW_BYTES = HEAD_BYTES + DIGEST_BYTES;
 
-    // The longest form: 49 digits of fields, 7 blanks between them, the mark's 6 signs, 2 digits of a reason.
-    private static final int FORM_BYTES = 64;
+    // The longest form: 47 digits of fields, 7 blanks between them, the mark's 6 signs, 2 digits of a reason.
+    private static final int FORM_BYTES = 62;
     // No field has more than ten digits, for none is above 8000000000.
     private static final long HIGHEST_UNIT = 1000000000L;
     private static final String VOID_MARK = " VOID ";

@@ -2,15 +2,37 @@
 final class Due {
     private static int asked = 0;
     private static int wrong = 0;
+    // The sentence of the document that is asked for, and how much had been asked before it.
+    private static String sentence = "";
+    private static int askedBefore = 0;
 
     private Due() {
+    }
+
+    /** What is asked from now on is asked for this sentence; one for which nothing was asked is wrong. */
+    static void of(String next) {
+        endSentence();
+        sentence = next;
+        askedBefore = asked;
+    }
+
+    private static void endSentence() {
+        if (!sentence.isEmpty() && asked == askedBefore) {
+            wrong++;
+            System.out.println("[" + sentence + "] nothing is asked for it");
+        }
+    }
+
+    private static void say(String call, String got, String want) {
+        wrong++;
+        String before = sentence.isEmpty() ? "" : "[" + sentence + "] ";
+        System.out.println(before + call + " answered " + got + ", due is " + want);
     }
 
     static void is(String call, long got, long want) {
         asked++;
         if (got != want) {
-            wrong++;
-            System.out.println(call + " answered " + got + ", due is " + want);
+            say(call, Long.toString(got), Long.toString(want));
         }
     }
 
@@ -21,8 +43,7 @@ final class Due {
     static void is(String call, String got, String want) {
         asked++;
         if (!got.equals(want)) {
-            wrong++;
-            System.out.println(call + " answered \"" + got + "\", due is \"" + want + "\"");
+            say(call, "\"" + got + "\"", "\"" + want + "\"");
         }
     }
 
@@ -38,6 +59,7 @@ final class Due {
     }
 
     static void end() {
+        endSentence();
         System.out.println(asked - wrong + " of " + asked + " answers as they are due");
         if (wrong > 0 || asked == 0) {
             System.exit(1);
