@@ -35,6 +35,7 @@ public final class AnswerEdgesTest {
         noTicketToShare();
         noCustomerToShare();
         allWeights0();
+        allWeights0OfAVoidOne();
 
         shortestForm();
         longestForm();
@@ -382,8 +383,23 @@ public final class AnswerEdgesTest {
         shares("one weight", x, 0, 0, 0, 0, 0, 0, 0, 70);
         x.split(0, 7, 0);
         shares("again", x, NONE, NONE, NONE, NONE, NONE, NONE, NONE, NONE);
+    }
+
+    private static void allWeights0OfAVoidOne() {
+        Due.of("12: NONE when .. all weights are 0, of a void one as well; (of 0, when it is void) and nothing else");
+        TicketChain x = withNet(70);
         x.voids(0, 1);
-        shares("void", x, NONE, NONE, NONE, NONE, NONE, NONE, NONE, NONE);
+        shares("never split", x, NONE, NONE, NONE, NONE, NONE, NONE, NONE, NONE);
+        x.split(0, 4, 9);
+        shares("split", x, 0, 0, 0, 0, 0, 0, 0, 0);
+        x.split(0, 4, 0);
+        shares("split back", x, NONE, NONE, NONE, NONE, NONE, NONE, NONE, NONE);
+        TicketChain y = withNet(70, 3, 4);
+        y.voids(0, 1);
+        y.split(0, 0, 0);
+        shares("one weight is left", y, 0, 0, 0, 0, 0, 0, 0, 0);
+        y.split(0, 1, 0);
+        shares("none is left", y, NONE, NONE, NONE, NONE, NONE, NONE, NONE, NONE);
     }
 
     /** A form whole, and NONE before and behind it. */

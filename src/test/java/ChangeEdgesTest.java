@@ -9,6 +9,7 @@ public final class ChangeEdgesTest {
 
     public static void main(String[] args) {
         becomesAnother();
+        tareStays();
         whatItIsAlready();
         rowsStayOfTheirDay();
         noSuchTicketToCorrect();
@@ -62,6 +63,43 @@ public final class ChangeEdgesTest {
             Due.is("made()", x.made(), 2);
             Due.is("the next row", x.correct(1, field, another[field], 0), 3);
         }
+    }
+
+    /** An object with a ticket of vehicle 1 on day 0, its gross 300 and the vehicle's tare 10; others are known. */
+    private static TicketChain withVehiclesTare() {
+        TicketChain x = new TicketChain();
+        x.follows(0, 1, 10);
+        x.follows(0, 2, 20);
+        x.follows(9, 1, 30);
+        x.follows(9, 2, 400);
+        x.ticket(1, 2, 300, -1, 0, 5);
+        return x;
+    }
+
+    private static void tareAndNet(String what, TicketChain x, long tare, long net) {
+        Due.is(what + ", tare", x.at(0, 4), tare);
+        Due.is(what + ", net", x.at(0, 5), net);
+    }
+
+    private static void tareStays() {
+        Due.of("4: A field of a ticket becomes another one, and no other; the net is gross less tare");
+        TicketChain x = withVehiclesTare();
+        tareAndNet("as it was made", x, 10, 290);
+        Due.is("another vehicle", x.correct(0, 1, 2, 0), 1);
+        tareAndNet("another vehicle", x, 10, 290);
+        Due.is("another day, when the vehicle weighs more than the gross", x.correct(0, 6, 9 * DAY, 0), 2);
+        tareAndNet("another day", x, 10, 290);
+        Due.is("a vehicle of which no tare is known", x.correct(0, 1, 3, 0), 3);
+        tareAndNet("no tare known", x, 10, 290);
+        Due.is("another gross", x.correct(0, 3, 299, 0), 4);
+        tareAndNet("another gross", x, 10, 289);
+        Due.is("another tare", x.correct(0, 4, 99, 0), 5);
+        tareAndNet("another tare", x, 99, 200);
+        Due.is("the vehicle that it was", x.correct(0, 1, 1, 0), 6);
+        tareAndNet("the vehicle that it was", x, 99, 200);
+        Due.is("a tare of -1 is no tare of a ticket", x.correct(0, 4, -1, 0), NONE);
+        tareAndNet("a tare of -1", x, 99, 200);
+        Due.is("a row for each, and none for the tare", x.rows(), 7);
     }
 
     private static void whatItIsAlready() {

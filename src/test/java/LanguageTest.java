@@ -8,9 +8,9 @@ import java.util.regex.Pattern;
 public final class LanguageTest {
     private static final String[] RULED_OUT = {
         "\\bcatch\\b", "\\bfinally\\b", "\\bsynchronized\\b", "\\bassert\\b", "->", "::", "\\w*Exact\\(",
-        "\\b(equals|hashCode|toString)\\s*\\(", "\\bprotected\\b", "\\bSystem\\.(?!arraycopy\\()", "\\bMath\\.", "\\bnative\\b",
-        "\\b(double|float)\\b", "\\bwhile\\s*\\(true\\)", "for \\(;;\\)", "^package\\b", "\\bstatic\\s*\\{",
-        "\\bjava\\.(?!util\\.ArrayList;)", "\\b(Object|Throwable|Exception|Error)\\b",
+        "\\b(equals|hashCode|toString)\\s*\\(", "\\bprotected\\b", "\\bSystem\\.(?!arraycopy\\()",
+        "\\bMath\\.", "\\bnative\\b", "\\b(double|float)\\b", "\\bwhile\\s*\\(true\\)", "for \\(;;\\)", "^package\\b",
+        "\\bstatic\\s*\\{", "\\bjava\\.(?!util\\.ArrayList;)", "\\b(Object|Throwable|Exception|Error)\\b",
     };
 
     public static void main(String[] args) throws IOException {

@@ -300,7 +300,8 @@ public final class TicketEdgesTest {
         Due.of("3: NONE when a field is not such: the tare (0 .. 1000000000)");
         TicketChain x = new TicketChain();
         x.follows(0, 0, 0);
-        long[] nones = {-2, TON + 1, LOOKS_LIKE_0, LOOKS_LIKE_MINUS_1, LOOKS_LIKE_0 - 2, Long.MAX_VALUE, Long.MIN_VALUE};
+        long[] nones = {-2, TON + 1, LOOKS_LIKE_0, LOOKS_LIKE_MINUS_1, LOOKS_LIKE_0 - 2, Long.MAX_VALUE,
+            Long.MIN_VALUE};
         for (long tare : nones) {
             Due.is("tare " + tare, x.ticket(0, 0, TON, tare, 0, 0), NONE);
             Due.is("tare " + tare + ", gross 0", x.ticket(0, 0, 0, tare, 0, 0), NONE);
